@@ -49,7 +49,7 @@ public final class RainTarget {
 
     private static final long[] TEN = {
         1L, 10L, 100L, 1000L, 10000L, 100000L, 1000000L, 10000000L, 100000000L, 1000000000L,
-        10000000000L, 100000000000L, 1000000000000L, 10000000000000L
+        10000000000L, 100000000000L, 1000000000000L
     };
 
     private final Text text;

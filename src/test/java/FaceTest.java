@@ -54,6 +54,11 @@ public final class FaceTest {
             isTrue(method + " has a name of its own",
                 !Modifier.isPrivate(method.getModifiers()) || !names.contains(method.getName()));
         }
+        for (Class<?> inside : RainTarget.class.getDeclaredClasses()) {
+            for (Method method : inside.getDeclaredMethods()) {
+                isTrue(method + " has a name of its own", !names.contains(method.getName()));
+            }
+        }
         isTrue("the class", RainTarget.class.getModifiers() == (Modifier.PUBLIC | Modifier.FINAL));
         Constructor<?>[] constructors = RainTarget.class.getDeclaredConstructors();
         isTrue("one constructor", constructors.length == 1 && constructors[0].getParameterCount() == 0
@@ -114,6 +119,9 @@ public final class FaceTest {
         }
         for (String line : code.split("\n")) {
             isTrue(line, !line.startsWith("import") || line.equals("import java.util.Arrays;"));
+            isTrue("nothing is made but in constructors: " + line, !line.contains(" new ")
+                || line.matches(" +private final [\\w\\[\\]]+ \\w+ = new .*")
+                || line.matches(" {8}\\w+ = new \\w+\\([\\w, ]*\\);"));
         }
     }
 }

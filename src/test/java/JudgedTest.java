@@ -88,6 +88,9 @@ public final class JudgedTest {
         Check.due("no tenths", x.clouded(1), 500000);
         x.play(36, 0);
         Check.due("what the second side did does not matter", x.clouded(1), 500000);
+        x.anew();
+        Check.bat(x, 20);
+        Check.due("the first side's runs and one more", x.clouded(1), 312500);
         RainTarget y = Check.told("overs 1;cloud 5 12;mood 0 2 0 10", 3);
         Check.bat(y, 1);
         Check.due("one over stays", y.clouded(0), 1000000);

@@ -38,6 +38,11 @@ public final class SidesTest {
         Check.due("OUTSIDE ahead of FULL", x.bat(37), RainTarget.OUTSIDE);
         Check.due("FIRST", x.count(3), 46);
         Check.due("the second side is as it was", x.count(5), 6);
+        RainTarget y = Check.told("overs 12", 1);
+        Check.bat(y, 1, 2, 3, 4, 5, 6, 7, 8, 9, 10, 11, 12);
+        Check.due("bat beyond twelve", y.bat(1), RainTarget.FULL);
+        Check.due("FIRST of twelve", y.count(3), 78);
+        Check.due("the best of twelve", y.sheet(1, 11), 13);
     }
 
     private static void anew() {
@@ -202,6 +207,10 @@ public final class SidesTest {
         Check.due("and 476 less 284", x.target(3), 37);
         Check.tell(x, "par 60 50", 1);
         Check.due("at par it is as TABLE", x.target(3), x.target(2));
+        Check.tell(x, "par 60 1", 1);
+        Check.due("at par it is as TABLE, whatever the bend", x.target(3), x.target(2));
+        Check.tell(x, "par 59 1", 1);
+        Check.due("one above par with a bend of one: by OVERS alone", x.target(3), 31);
         Check.tell(x, "par 0 60", 1);
         Check.due("as high as the bend: by OVERS alone", x.target(3), 31);
         Check.tell(x, "par 0 20", 1);
@@ -226,6 +235,11 @@ public final class SidesTest {
         Check.bat(y, 36, 36);
         y.rain(3);
         Check.due("no chance ahead: the target stays", y.target(4), 73);
+        RainTarget w = Check.told(COIN, 3);
+        Check.bat(w, 29);
+        w.play(10, 0);
+        w.rain(1);
+        Check.due("20 more in three are 1/2, 10 more in two 3/4", w.target(4), 20);
         RainTarget z = Check.told(COIN, 3);
         Check.bat(z, 4);
         z.rain(4);
@@ -289,6 +303,8 @@ public final class SidesTest {
         Check.due("by WORST: 5 in 0 less 5 in 1", x.gain(1), 500000);
         x.anew();
         Check.due("begun anew", x.gain(0), RainTarget.NOT);
+        x.rain(3);
+        Check.due("rain as the first event: 1 in 1 less 1 in 4", x.gain(0), 1000000 + 500000 - 750000);
     }
 
     private static void won() {

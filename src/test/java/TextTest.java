@@ -103,6 +103,9 @@ public final class TextTest {
             Check.fault(word.substring(1) + " 1", 0);
             Check.fault(word + " 1000", word.length() + 1);
             Check.fault(word + " x", word.length() + 1);
+            for (int i = 0; i < word.length(); i++) {
+                Check.fault(word.substring(0, i) + "x" + word.substring(i + 1) + " 1 1 1 10", 0);
+            }
         }
     }
 
