@@ -3,8 +3,9 @@ import java.util.Random;
 
 /** Long runs of calls, drawn from fixed seeds: the class must answer as the model does. */
 public final class ModelTest {
-    private static final int RUNS = 200;
-    private static final int CALLS = 512;
+    private static final int RUNS = 250;
+    /** A step may go on behind this by a long text, and must not reach the 512 calls of an object. */
+    private static final int CALLS = 400;
     private static final String[] WORDS = {"overs", "men", "mood", "par", "cloud", "line"};
 
     private final Random random;
