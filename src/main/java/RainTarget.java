@@ -420,7 +420,7 @@ public final class RainTarget {
     }
 
     private static long power(int tens) {
-        return within(tens, 0, TEN.length - 1) ? TEN[tens] : 1L;
+        return tens >= 0 && tens < TEN.length ? TEN[tens] : 1L;
     }
 
     private static long cut(long above, long below) {

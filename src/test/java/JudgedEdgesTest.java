@@ -35,6 +35,7 @@ public final class JudgedEdgesTest {
         triedOfAll();
         countOutside();
         countOfLeastAndMost();
+        lastCall();
         Check.end();
     }
 
@@ -375,5 +376,16 @@ public final class JudgedEdgesTest {
             x.play(36, 0);
         }
         counts("behind twelve overs", x, 12, 10, 0, 0, 12, 0, 10, 432, 0, 5);
+    }
+
+    /** "An object is used for at most 512 calls": the last of them is answered as the first. */
+    private static void lastCall() {
+        RainTarget x = new RainTarget();
+        Check.due("call 1", x.rain(1), 5);
+        for (int call = 2; call <= 511; call += 2) {
+            Check.due("call " + call, x.odd(call / 2 % 6), NONE);
+            Check.due("call " + (call + 1), x.target(call / 2 % 6), 1);
+        }
+        Check.due("call 512", x.play(36, 0), 36);
     }
 }

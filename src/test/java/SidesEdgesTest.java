@@ -38,6 +38,7 @@ public final class SidesEdgesTest {
         chanceIsKept();
         chanceIsOneAtLeast();
         chanceIsNeverAbove();
+        chanceByEveryRun();
         saidIsOneAtLeast();
         oddsOfWhatIsMade();
         oddsWithoutOversOrMen();
@@ -424,9 +425,26 @@ public final class SidesEdgesTest {
         made.play(36, 0);
         made.rain(3);
         Check.due("36 are made, 10 are asked for", made.target(CHANCE), 10);
-        RainTarget most = allBatted(12);
-        most.rain(12);
-        Check.due("433 stay 433", most.target(CHANCE), 433);
+        for (int first = 0; first <= 432; first++) {
+            RainTarget stays = Check.told("overs 12;mood 0 0 0 10", 2);
+            for (int left = first; left > 0; left -= 36) {
+                stays.bat(Math.min(36, left));
+            }
+            stays.rain(12);
+            Check.due("it stays where nothing can be made", stays.target(CHANCE), first + 1);
+        }
+    }
+
+    /** Terms, CHANCE: every TARGET from 1 to the most can be the greatest that keeps the odds. */
+    private static void chanceByEveryRun() {
+        for (int first = 0; first < 396; first++) {
+            RainTarget x = Check.told("overs 12;men 1;mood 0 35 0 9 36 0 1", 3);
+            for (int left = first; left > 0; left -= 36) {
+                x.bat(Math.min(36, left));
+            }
+            x.rain(1);
+            Check.due("up to 385 in eleven for sure", x.target(CHANCE), first < 385 ? first + 1 : 385);
+        }
     }
 
     /** Terms, SAID: "FIRST and 1 less LINE times as many OVERS as RAIN took", "1 at least". */

@@ -496,15 +496,17 @@ public final class TextEdgesTest {
 
     /** 6: "how many (0: it is not told)": of none, one and four, and told anew with fewer. */
     private static void moodSizes() {
-        RainTarget x = new RainTarget();
-        Check.due("not told", x.mood(1, 0, NONE), 0);
-        Check.tell(x, "mood 1 36 3 1 0 0 2 1 1 3 2 2 4", 1);
-        Check.due("four", x.mood(1, 0, NONE), 4);
-        Check.due("the fourth", x.mood(1, 3, 2), 4);
-        Check.due("the fifth", x.mood(1, 4, 2), UNKNOWN);
-        Check.tell(x, "mood 1 0 0 10", 1);
-        Check.due("one", x.mood(1, 0, NONE), 1);
-        Check.due("the second is gone", x.mood(1, 1, 0), UNKNOWN);
-        Check.due("the first", x.mood(1, 0, 2), 10);
+        for (int mood = 0; mood <= 3; mood++) {
+            RainTarget x = new RainTarget();
+            Check.due("told or not", x.mood(mood, 0, NONE), mood == 0 ? 1 : 0);
+            Check.tell(x, "mood " + mood + " 36 3 1 0 0 2 1 1 3 2 2 4", 1);
+            Check.due("four", x.mood(mood, 0, NONE), 4);
+            Check.due("the fourth", x.mood(mood, 3, 2), 4);
+            Check.due("the fifth", x.mood(mood, 4, 2), UNKNOWN);
+            Check.tell(x, "mood " + mood + " 0 0 10", 1);
+            Check.due("one", x.mood(mood, 0, NONE), 1);
+            Check.due("the second is gone", x.mood(mood, 1, 0), UNKNOWN);
+            Check.due("the first", x.mood(mood, 0, 2), 10);
+        }
     }
 }
